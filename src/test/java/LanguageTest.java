@@ -41,6 +41,7 @@ public final class LanguageTest {
             holds("the program does without " + word, !found.find());
         }
         methodsAreShort(code);
+        noCallThrows();
         for (char sign : source.toCharArray()) {
             if (sign > 126) {
                 holds("signs of the program are plain: " + (int) sign, false);
@@ -114,6 +115,45 @@ public final class LanguageTest {
             holds("a static field is final: " + f.getName(), !Modifier.isStatic(is) || Modifier.isFinal(is));
         }
         holds("the constants are the document's: " + constants, constants.equals(new TreeSet<>(List.of(CONSTANTS))));
+    }
+
+    /** Rule 7: any arguments in any state; what the answers are is not looked at here. */
+    private static void noCallThrows() {
+        int[] any = {0, 1, 2, 3, 0, 1, 2, 3, 4, 5, 6, 7, 10, 20, 30, 40, 60, -1, -2, 256, Integer.MIN_VALUE, Integer.MAX_VALUE};
+        String text = "m2478;g351;n260;b941;g191";
+        long seed = 7;
+        for (int run = 0; run < 200; run++) {
+            GalleryBirds x = new GalleryBirds();
+            x.sheet(0, 0, text.length());
+            for (int i = 0; i < text.length(); i++) {
+                x.put(0, i, text.charAt(i));
+            }
+            if (run % 4 != 0) {
+                x.mine(0, 0, 0, text.length());
+            }
+            for (int call = 0; call < 400; call++) {
+                for (Method m : GalleryBirds.class.getDeclaredMethods()) {
+                    Object[] numbers = new Object[m.getParameterCount()];
+                    for (int p = 0; p < numbers.length; p++) {
+                        seed = seed * 6364136223846793005L + 1442695040888963407L;
+                        numbers[p] = any[(int) ((seed >>> 33) % any.length)];
+                    }
+                    if (Modifier.isPublic(m.getModifiers()) && !answers(x, m, numbers)) {
+                        return;
+                    }
+                }
+            }
+        }
+    }
+
+    private static boolean answers(GalleryBirds x, Method m, Object[] numbers) {
+        try {
+            m.invoke(x, numbers);
+            return true;
+        } catch (ReflectiveOperationException thrown) {
+            holds("no call throws: " + m.getName() + List.of(numbers) + " " + thrown.getCause(), false);
+            return false;
+        }
     }
 
     private static String withoutComments(String source) {

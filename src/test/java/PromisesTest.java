@@ -136,6 +136,11 @@ public final class PromisesTest {
             due("2 mine " + texts[t], -100 - places[t], mineBy(x, texts[t]));
             due("2 nothing is made by " + texts[t], 0, x.many(0));
         }
+        GalleryBirds starts = new GalleryBirds();
+        tellText(starts, 0, 0, "m0123;g251;n340;b191");
+        for (int n = 0; n < 20; n++) {
+            due("2 the first codes: " + n, n == 15 ? 2 : -100 - n, starts.mine(0, 0, 0, n));
+        }
         due("2 two galleries", 2, mineBy(new GalleryBirds(), "m1;g251;n340"));
         due("2 three galleries", 3, mineBy(new GalleryBirds(), "m12;g251;n340;b191"));
         GalleryBirds full = new GalleryBirds();
@@ -518,6 +523,12 @@ public final class PromisesTest {
         y.foul(1, 7);
         due("13 both", 3, y.shut(1, 2, 0, 1, 0));
         due("13 both, none drops", 0, y.shut(1, 2, 0, 1, 1));
+        int[] row = new int[40];
+        for (int b = 0; b < 20; b++) {
+            row[2 * b] = 1;
+        }
+        numbers(y, 2, row);
+        due("13 twenty pairs", 0, y.shut(2, 2, 0, 20, 1));
         y.foul(1, 5);
         y.door(0, 1);
         due("13 an open door is shut", 0, y.shut(1, 2, 0, 1, 0));
@@ -850,11 +861,13 @@ public final class PromisesTest {
         due("23 sixty", 1, x.sheet(0, 1, 60));
         due("23 the last one", 0, x.cell(0, 59, 1));
         due("23 no further one", LOST, x.cell(0, 60, 1));
+        x.put(0, 0, 66);
         x.put(0, 5, 77);
         due("23 SIZE leaves what it has", -14, x.sheet(0, 1, Integer.MIN_VALUE));
         due("23 what it has", 77, x.cell(0, 5, 1));
         due("23 anew", 1, x.sheet(0, 2, 6));
         due("23 0 at first", 0, x.cell(0, 5, 2));
+        due("23 0 at first, the first one, too", 0, x.cell(0, 0, 2));
         due("23 shorter now", LOST, x.cell(0, 6, 2));
     }
 
