@@ -6,8 +6,9 @@ import java.util.List;
  * that shares nothing with it: bodies are real methods, SHEETS real arrays, searches try all there is.
  */
 public final class OracleTest {
-    private static final int RUNS = 240;
-    private static final int CALLS = 500;
+    private static final int RUNS = 1500;
+    /** A copy of which all cells are looked at, with fault() and trace() behind each. */
+    private static final int MOST_AT_ONCE = 190;
     private static int wrong = 0;
     private static long seed = 20261119L;
 
@@ -44,43 +45,43 @@ public final class OracleTest {
     }
 
     private static void oneRun(int run) {
-        GalleryBirds x = new GalleryBirds();
+        Birds x = new Birds();
         Oracle o = new Oracle();
-        int calls = 0;
-        while (calls < CALLS && wrong < 20) {
+        while (x.calls() + MOST_AT_ONCE <= Birds.MOST_CALLS && wrong < 20) {
             int pick = any(60);
-            int[] used = {0};
-            if (pick < 2 || calls == 0) {
-                tellMine(x, o, run, used);
+            if (pick < 2 || x.calls() == 0) {
+                tellMine(x, o, run);
             } else if (pick < 8) {
-                tellPairs(x, o, run, used);
+                tellPairs(x, o, run);
             } else {
-                call(x, o, run, 1 + any(33), used);
+                call(x, o, run, 1 + any(33));
             }
-            calls += used[0];
         }
     }
 
-    private static void check(int run, String call, long got, long want, GalleryBirds x, Oracle o) {
+    private static void answered(int run, String call, long got, long want) {
         if (got != want) {
             wrong++;
             System.out.println("run " + run + ": " + call + " answered " + got + ", due is " + want);
         }
+    }
+
+    private static void check(int run, String call, long got, long want, Birds x, Oracle o) {
+        answered(run, call, got, want);
         if (x.fault() != o.fault || x.trace() != o.trace) {
             wrong++;
             System.out.println("run " + run + ": behind " + call + " fault or trace is not as due");
         }
     }
 
-    private static void set(GalleryBirds x, Oracle o, int run, int[] used, int k, int lane, int[] row) {
+    private static void set(Birds x, Oracle o, int run, int k, int lane, int[] row) {
         check(run, "sheet", x.sheet(k, lane, row.length), o.sheet(k, lane, row.length), x, o);
         for (int i = 0; i < row.length; i++) {
-            check(run, "put", x.put(k, i, row[i]), o.put(k, i, row[i]), x, o);
+            answered(run, "put", x.put(k, i, row[i]), o.put(k, i, row[i]));
         }
-        used[0] += row.length + 1;
     }
 
-    private static void tellMine(GalleryBirds x, Oracle o, int run, int[] used) {
+    private static void tellMine(Birds x, Oracle o, int run) {
         StringBuilder text = new StringBuilder("m");
         int words = 1 + any(4);
         for (int w = 0; w < words; w++) {
@@ -102,13 +103,12 @@ public final class OracleTest {
         for (int i = 0; i < text.length(); i++) {
             row[from + i] = text.charAt(i);
         }
-        set(x, o, run, used, 0, lane, row);
+        set(x, o, run, 0, lane, row);
         int n = text.length();
         check(run, "mine " + text, x.mine(0, lane, from, n), o.mine(0, lane, from, n), x, o);
-        used[0]++;
     }
 
-    private static void tellPairs(GalleryBirds x, Oracle o, int run, int[] used) {
+    private static void tellPairs(Birds x, Oracle o, int run) {
         int pairs = any(7);
         int from = any(2);
         int[] row = new int[from + 2 * pairs];
@@ -121,7 +121,7 @@ public final class OracleTest {
             }
         }
         int lane = any(3);
-        set(x, o, run, used, 1, lane, row);
+        set(x, o, run, 1, lane, row);
         for (int what = -1; what < 17; what++) {
             check(run, "shift what " + what, x.shift(1, lane, from, pairs, what),
                     o.shift(1, lane, from, pairs, what), x, o);
@@ -132,38 +132,34 @@ public final class OracleTest {
         for (int what = 0; what < 2; what++) {
             check(run, "shut what " + what, x.shut(1, lane, from, pairs, what), o.shut(1, lane, from, pairs, what), x, o);
         }
-        used[0] += 26;
-        tellFouls(x, o, run, used);
+        tellFouls(x, o, run);
     }
 
-    private static void tellFouls(GalleryBirds x, Oracle o, int run, int[] used) {
+    private static void tellFouls(Birds x, Oracle o, int run) {
         if (o.galleries() == 0) {
             return;
         }
         Oracle.Air then = o.air.another();
         then.breathe(o, any(o.galleries()), o.bads[any(o.bads.length)], o.open);
-        set(x, o, run, used, 2, 2, then.foul);
+        set(x, o, run, 2, 2, then.foul);
         for (int k = -1; k < 8; k++) {
             check(run, "found " + k, x.found(2, 2, 0, k), o.found(2, 2, 0, k), x, o);
         }
-        used[0] += 9;
     }
 
-    private static void call(GalleryBirds x, Oracle o, int run, int promise, int[] used) {
+    private static void call(Birds x, Oracle o, int run, int promise) {
         int g = near(0, 5);
         int k = near(0, 3);
         int lane = any(5) == 0 ? near(0, 2) : o.laneOf(k);
         int i = near(0, 8);
         int n = near(0, 6);
         int v = near(0, 40);
-        used[0]++;
         switch (promise) {
             case 2: check(run, "mine", x.mine(k, lane, i, n), o.mine(k, lane, i, n), x, o); break;
             case 3:
                 for (int what = -1; what < 7; what++) {
                     check(run, "ofGallery " + what, x.ofGallery(g, what), o.ofGallery(g, what), x, o);
                 }
-                used[0] += 7;
                 break;
             case 4: check(run, "bad", x.bad(k), o.bad(k), x, o); break;
             case 5: check(run, "foul", x.foul(g, v), o.foul(g, v), x, o); break;
@@ -190,14 +186,13 @@ public final class OracleTest {
                 for (int seat = -2; seat < 7; seat++) {
                     check(run, "perches " + seat, x.perches(seat), o.perches(seat), x, o);
                 }
-                used[0] += 8;
                 break;
             case 17: check(run, "found", x.found(k, lane, i, g), o.found(k, lane, i, g), x, o); break;
-            default: callMore(x, o, run, promise, used);
+            default: callMore(x, o, run, promise);
         }
     }
 
-    private static void callMore(GalleryBirds x, Oracle o, int run, int promise, int[] used) {
+    private static void callMore(Birds x, Oracle o, int run, int promise) {
         int g = near(0, 5);
         int k = near(0, 3);
         int other = near(0, 3);
