@@ -71,6 +71,9 @@ public final class BoundariesTest {
             x.foul(g, 10);
             due("bit k for number k: " + g, 1 << g, x.hush(1));
             due("one is down", 1, x.many(3));
+            for (int other = 0; other < 6; other++) {
+                due("whether it is DOWN: " + other, other == g ? 1 : 0, x.ofGallery(other, 4));
+            }
         }
         Birds all = Birds.with("m4;g090;g090;g090;g090;g090;g090").fouls(10, 10, 10, 10, 10, 10);
         due("a full set", 63, all.hush(1));
@@ -570,11 +573,16 @@ public final class BoundariesTest {
         x.fouls(0, 12, 0);
         due("one drops by any set: the fewest DOORS", 0, x.shut(1, 2, 0, 1, 0));
         due("one drops", 1, x.shut(1, 2, 0, 1, 1));
-        // Four DOORS 0 .. 3: one (3, set 8) is fewer than two (0 and 1, set 3).
-        Birds y = Birds.with("m4;g090;g090;g090;g090;g090").row(1, 2, 0, 0).fouls(0, 0, 0, 9, 11);
-        y.breed(4, 9);
-        y.fouls(0, 0, 0, 0, 10);
-        due("fewer DOORS ahead of a lesser set", 8, y.shut(1, 2, 0, 1, 0));
+        Birds four = Birds.with("m4;g090;g090;g090;g090").row(1, 2, 0, 0).fouls(0, 11, 0, 0);
+        due("two DOORS ahead of one by which more drop", 3, four.shut(1, 2, 0, 1, 0));
+        // Gallery 2 is clear by door 2 alone, or by door 1, if door 0 makes room ahead of it: sets 4 and 3.
+        four.breed(1, 7);
+        four.fouls(0, 7, 10, 0);
+        due("one DOOR ahead of two that are a lesser set", 4, four.shut(1, 2, 0, 1, 0));
+        due("none drops by it", 0, four.shut(1, 2, 0, 1, 1));
+        four.fouls(0, 7, 10, 9);
+        due("where it is the two that are needed", 3, four.shut(1, 2, 0, 1, 0));
+        due("none drops by them", 0, four.shut(1, 2, 0, 1, 1));
     }
 
     // Terms: RESTS, CLEARS, PERCHES, FOUND
@@ -701,6 +709,11 @@ public final class BoundariesTest {
             x.row(1, lane, full).fouls(40, 39);
             due("cells at the end of a full row", 2, x.found(1, lane, 58, -1));
             due("cells ahead of it", 0, x.found(1, lane, 57, -1));
+            x.put(1, 58, 39);
+            due("just the first cell is another", 0, x.found(1, lane, 58, -1));
+            x.put(1, 58, 40);
+            x.put(1, 59, 40);
+            due("just the last cell is another", 0, x.found(1, lane, 58, -1));
             x.put(1, 59, -1);
             due("below 0 is not found", 0, x.found(1, lane, 58, -1));
             x.put(1, 59, 41);
