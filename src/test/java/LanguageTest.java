@@ -29,6 +29,9 @@ public final class LanguageTest {
         "equals", "hashCode", "toString", "System\\.(?!arraycopy)", "->", "::", "volatile", "native", "transient",
         "protected", "goto", "var"
     };
+    private static final List<String> LIBRARY = List.of("Math.max", "Math.min", "Math.abs", "Integer.bitCount",
+            "System.arraycopy");
+    private static final int MOST_CLASSES = 12, MOST_FIELDS = 20;
     private static int wrong = 0;
 
     public static void main(String[] args) throws IOException {
@@ -40,7 +43,9 @@ public final class LanguageTest {
             Matcher found = Pattern.compile(plain ? "\\b" + word + (word.contains("(") ? "" : "\\b") : word).matcher(code);
             holds("the program does without " + word, !found.find());
         }
+        libraryIsKept(code);
         methodsAreShort(code);
+        classesAreSmall();
         noCallThrows();
         for (char sign : source.toCharArray()) {
             if (sign > 126) {
@@ -153,6 +158,27 @@ public final class LanguageTest {
         } catch (ReflectiveOperationException thrown) {
             holds("no call throws: " + m.getName() + List.of(numbers) + " " + thrown.getCause(), false);
             return false;
+        }
+    }
+
+    /** What is called by a class's name is of the library; calls within the class need no name. */
+    private static void libraryIsKept(String code) {
+        Matcher named = Pattern.compile("\\b([A-Z]\\w*\\.\\w+)\\s*\\(").matcher(code);
+        while (named.find()) {
+            holds("a call of the library is one of those that are told: " + named.group(1), LIBRARY.contains(named.group(1)));
+        }
+    }
+
+    private static void classesAreSmall() {
+        List<Class<?>> all = new ArrayList<>(List.of(GalleryBirds.class.getDeclaredClasses()));
+        all.add(GalleryBirds.class);
+        holds("the file has so many classes: " + all.size(), all.size() <= MOST_CLASSES);
+        for (Class<?> c : all) {
+            int fields = 0;
+            for (Field f : c.getDeclaredFields()) {
+                fields += Modifier.isStatic(f.getModifiers()) ? 0 : 1;
+            }
+            holds("a class has few fields: " + c + " " + fields, fields <= MOST_FIELDS);
         }
     }
 
